@@ -62,7 +62,7 @@ public final class TransportFour {
     private static final int UNIT_ROOM = 17;
     private static final int RECORD = 64;
     // A unit is on the way for 8 ticks at most; windows, receipts and faults keep fewer than this in so many.
-    private static final int NET_ROOM = 512;
+    private static final int NET_ROOM = 256;
     private static final int FAULT_ROOM = 60;
     private static final int LAST_REFERENCE = 65535;
 
@@ -400,7 +400,7 @@ public final class TransportFour {
         }
 
         void dispatch(int sender) {
-            Unit unit = nextUnit();
+            Unit unit = unitOf(count);
             unit.fillChecks(unit.plainSum(), unit.weightedSum());
             unit.sender = sender;
             unit.arrival = now + DELAY;
@@ -887,10 +887,6 @@ public final class TransportFour {
             return state == CALLING || state == OPEN || state == CLOSING;
         }
 
-        boolean isForConnection(Unit unit) {
-            return hasConnection() && unit.to() == reference;
-        }
-
         void noteReason(int newReason) {
             if (reason == REASON_NONE) {
                 reason = newReason;
@@ -900,6 +896,19 @@ public final class TransportFour {
         void freeze() {
             state = FROZEN;
             frozenAt = net.now;
+        }
+
+        void hear(Unit unit) {
+            int kind = unit.kind();
+            if (kind == CALL) {
+                hearCall(unit);
+            } else if (hasConnection() && unit.to() == reference) {
+                heardAt = net.now;
+                endWaitOf(ANSWER | FULL_CREDIT);
+                hearForConnection(unit, kind);
+            } else if (kind == END) {
+                sendLink(END_RECEIPT, unit.from(), unit.to(), 0);
+            }
         }
 
         void hearCall(Unit unit) {
@@ -916,29 +925,55 @@ public final class TransportFour {
             }
         }
 
-        void hear(Unit unit) {
-            int kind = unit.kind();
-            if (kind == CALL) {
-                hearCall(unit);
-                return;
+        void hearForConnection(Unit unit, int kind) {
+            switch (kind) {
+                case ANSWER:
+                    if (acceptsAnswer(unit)) {
+                        sendReceipt();
+                    }
+                    break;
+                case DATA:
+                    inbox.accept(unit);
+                    sendReceipt();
+                    break;
+                case URGENT:
+                    urgentIn.accept(unit.number(), unit.bytes[unit.headLengthOfKind()]);
+                    sendNumbered(URGENT_RECEIPT, urgentIn.expected);
+                    break;
+                case RECEIPT:
+                    if (state == OPEN) {
+                        outbox.readReceipt(unit.number(), unit.credit());
+                        sendNewData();
+                    }
+                    break;
+                case URGENT_RECEIPT:
+                    if (state == OPEN) {
+                        urgentOut.readReceipt(unit.number());
+                        sendNewUrgent();
+                    }
+                    break;
+                case END:
+                    hearEnd(unit);
+                    break;
+                case END_RECEIPT:
+                    if (state == CLOSING) {
+                        freeze();
+                    }
+                    break;
+                default:
+                    break;
             }
-            if (!isForConnection(unit)) {
-                if (kind == END) {
-                    sendLink(END_RECEIPT, unit.from(), unit.to(), 0);
-                }
-                return;
+        }
+
+        boolean acceptsAnswer(Unit unit) {
+            if (state == CALLING) {
+                state = OPEN;
+                peerReference = unit.from();
+                outbox.peerCredit = unit.credit();
+                endWaitOf(CALL | FULL_CREDIT);
+                return true;
             }
-            heardAt = net.now;
-            endWaitOf(ANSWER | FULL_CREDIT);
-            if (kind == END) {
-                hearEnd(unit);
-            } else if (state == OPEN) {
-                hearWhenOpen(unit, kind);
-            } else if (state == CALLING && kind == ANSWER) {
-                hearAnswer(unit);
-            } else if (state == CLOSING && kind == END_RECEIPT) {
-                freeze();
-            }
+            return state == OPEN && peerReference == unit.from();
         }
 
         void hearEnd(Unit unit) {
@@ -948,42 +983,6 @@ public final class TransportFour {
                 state = CLOSED;
             } else {
                 freeze();
-            }
-        }
-
-        void hearAnswer(Unit unit) {
-            state = OPEN;
-            peerReference = unit.from();
-            outbox.peerCredit = unit.credit();
-            endWaitOf(CALL | FULL_CREDIT);
-            sendReceipt();
-        }
-
-        void hearWhenOpen(Unit unit, int kind) {
-            switch (kind) {
-                case ANSWER:
-                    if (unit.from() == peerReference) {
-                        sendReceipt();
-                    }
-                    break;
-                case DATA:
-                    inbox.accept(unit);
-                    sendReceipt();
-                    break;
-                case RECEIPT:
-                    outbox.readReceipt(unit.number(), unit.credit());
-                    sendNewData();
-                    break;
-                case URGENT:
-                    urgentIn.accept(unit.number(), unit.bytes[unit.headLengthOfKind()]);
-                    sendNumbered(URGENT_RECEIPT, urgentIn.expected);
-                    break;
-                case URGENT_RECEIPT:
-                    urgentOut.readReceipt(unit.number());
-                    sendNewUrgent();
-                    break;
-                default:
-                    break;
             }
         }
 

@@ -1,0 +1,153 @@
+/** Promises 5 and 9: urgent bytes. */
+public final class UrgeTest {
+    private static final Due DUE = new Due();
+
+    public static void main(String[] args) {
+        wrongInputs();
+        oneGoesAtATime();
+        eightMayWait();
+        lostOneIsSentAgain();
+        receiptAgainIsNotPutAgain();
+        urgentIsGivenUp();
+        urgentGoesBesideDataWithoutCredit();
+        bytesStayTillTheNextConnection();
+        numbersGoRound();
+        DUE.finish();
+    }
+
+    private static void wrongInputs() {
+        TransportFour x = new TransportFour();
+        DUE.is("urge(0, 1) when CLOSED", x.urge(0, 1), Due.NO);
+        DUE.is("urge(0, 256) when CLOSED", x.urge(0, 256), Due.BAD);
+        DUE.is("urgent(0) when none", x.urgent(0), Due.NO);
+        DUE.is("urgent(2)", x.urgent(2), Due.BAD);
+        DUE.is("urgent(-1)", x.urgent(-1), Due.BAD);
+        x.call(0);
+        DUE.is("urge when CALLING", x.urge(0, 1), Due.NO);
+        x.tick(4);
+        DUE.is("urge(2, 1)", x.urge(2, 1), Due.BAD);
+        DUE.is("urge(0, 256)", x.urge(0, 256), Due.BAD);
+        DUE.is("urge(0, -1)", x.urge(0, -1), Due.BAD);
+        DUE.is("urge(0, 255)", x.urge(0, 255), 1);
+        DUE.is("urge(1, 0)", x.urge(1, 0), 1);
+        x.end(0);
+        DUE.is("urge when CLOSING", x.urge(0, 1), Due.NO);
+    }
+
+    private static void oneGoesAtATime() {
+        TransportFour x = Due.settled();
+        DUE.is("first", x.urge(0, 10), 1);
+        DUE.is("second", x.urge(0, 11), 2);
+        DUE.unit(x, 3, Due.urgentUnit(1, 0, 10));
+        DUE.is("sent", x.sent(), 4);
+        x.tick(2);
+        DUE.unit(x, 4, Due.urgentReceiptUnit(1, 1));
+        DUE.is("urgent bytes there", x.told(1, 8), 1);
+        x.tick(2);
+        DUE.unit(x, 5, Due.urgentUnit(1, 1, 11));
+        DUE.is("the first waits no more", x.urge(0, 12), 2);
+        x.tick(6);
+        DUE.is("urgent bytes there", x.told(1, 8), 3);
+        DUE.is("taken", x.urgent(1), 10);
+        DUE.is("taken", x.urgent(1), 11);
+        DUE.is("taken", x.urgent(1), 12);
+        DUE.is("no more", x.urgent(1), Due.NO);
+        DUE.is("none at the other end", x.urgent(0), Due.NO);
+    }
+
+    private static void eightMayWait() {
+        TransportFour x = Due.settled();
+        for (int i = 1; i <= 8; i++) {
+            DUE.is("urge", x.urge(1, i), i);
+        }
+        DUE.is("the ninth", x.urge(1, 9), Due.FULL);
+        DUE.is("BAD before FULL", x.urge(1, 300), Due.BAD);
+        x.tick(4);
+        DUE.is("room again", x.urge(1, 9), 8);
+        Due.pass(x, 40);
+        for (int i = 1; i <= 9; i++) {
+            DUE.is("taken", x.urgent(0), i);
+        }
+    }
+
+    private static void lostOneIsSentAgain() {
+        TransportFour x = Due.settled();
+        x.fault(Due.LOST, 3, 0, 1);
+        x.urge(0, 77);
+        x.tick(7);
+        DUE.is("sent at 13", x.sent(), 4);
+        x.tick(1);
+        DUE.unit(x, 4, Due.urgentUnit(1, 0, 77));
+        x.tick(2);
+        DUE.is("taken", x.urgent(1), 77);
+    }
+
+    private static void receiptAgainIsNotPutAgain() {
+        TransportFour x = Due.settled();
+        x.fault(Due.LOST, 4, 0, 1);
+        x.urge(0, 5);
+        x.tick(10);
+        DUE.unit(x, 6, Due.urgentReceiptUnit(1, 1));
+        DUE.is("put once", x.told(1, 8), 1);
+        x.tick(2);
+        DUE.is("waits no more", x.urge(0, 6), 1);
+        DUE.unit(x, 7, Due.urgentUnit(1, 1, 6));
+    }
+
+    private static void urgentIsGivenUp() {
+        TransportFour x = Due.settled();
+        for (int number = 3; number < 20; number++) {
+            x.fault(Due.LOST, number, 0, 1);
+        }
+        x.urge(1, 5);
+        Due.pass(x, 31);
+        DUE.state(x, 1, 2);
+        x.tick(1);
+        DUE.state(x, 1, 4);
+        DUE.is("reason", x.told(1, 9), 1);
+        DUE.unit(x, x.sent() - 1, Due.endUnit(1, 1, 1));
+    }
+
+    private static void urgentGoesBesideDataWithoutCredit() {
+        TransportFour x = Due.settled();
+        for (int i = 0; i < 7; i++) {
+            x.send(0);
+        }
+        x.tick(4);
+        DUE.is("no credit", x.told(1, 5), 0);
+        x.urge(0, 200);
+        x.tick(2);
+        DUE.is("urgent byte", x.urgent(1), 200);
+    }
+
+    private static void bytesStayTillTheNextConnection() {
+        TransportFour x = Due.settled();
+        x.urge(0, 1);
+        x.tick(4);
+        x.urge(0, 2);
+        x.tick(4);
+        x.end(0);
+        Due.pass(x, 16);
+        DUE.state(x, 1, 0);
+        DUE.is("there", x.told(1, 8), 2);
+        DUE.is("taken when CLOSED", x.urgent(1), 1);
+        x.call(0);
+        x.tick(2);
+        DUE.is("gone", x.told(1, 8), 0);
+        DUE.is("none to take", x.urgent(1), Due.NO);
+        x.tick(4);
+        x.urge(0, 3);
+        DUE.unit(x, x.sent() - 1, Due.urgentUnit(2, 0, 3));
+    }
+
+    private static void numbersGoRound() {
+        TransportFour x = Due.opened();
+        for (int i = 0; i < 130; i++) {
+            x.urge(1, i);
+            x.tick(4);
+            DUE.is("urgent byte " + i, x.urgent(0), i);
+        }
+        x.urge(1, 9);
+        DUE.unit(x, x.sent() - 1, Due.urgentUnit(1, 2, 9));
+    }
+}
