@@ -4,6 +4,8 @@ public final class CallTest {
 
     public static void main(String[] args) {
         wrongEnds();
+        onlyAClosedEndMayCall();
+        closedEndMayCallAgain();
         callIsAnswered();
         callIsSentAgainAndGivenUp();
         answerIsSentAgainAndGivenUp();
@@ -19,9 +21,33 @@ public final class CallTest {
 
     private static void wrongEnds() {
         TransportFour x = new TransportFour();
-        DUE.is("call(-1)", x.call(-1), Due.BAD);
-        DUE.is("call(2)", x.call(2), Due.BAD);
+        for (int end : Due.NO_ENDS) {
+            DUE.is("call(" + end + ")", x.call(end), Due.BAD);
+        }
         DUE.is("sent", x.sent(), 0);
+        DUE.is("call(1)", x.call(1), 1);
+        DUE.is("call(0)", x.call(0), 1);
+    }
+
+    /** "NO when it is not closed". */
+    private static void onlyAClosedEndMayCall() {
+        for (int end = 0; end < 2; end++) {
+            for (int state = Due.CLOSED; state <= Due.FROZEN; state++) {
+                TransportFour x = Due.inState(end, state);
+                DUE.state(x, end, state);
+                DUE.is("call(" + end + ") in state " + state, x.call(end), state == Due.CLOSED ? 1 : Due.NO);
+            }
+        }
+    }
+
+    /** An end is FROZEN at 8 and CLOSED at 20: one tick before that it may not call. */
+    private static void closedEndMayCallAgain() {
+        TransportFour x = Due.inState(0, Due.FROZEN);
+        x.tick(11);
+        DUE.is("call(0) 11 ticks later", x.call(0), Due.NO);
+        x.tick(1);
+        DUE.is("call(0) 12 ticks later", x.call(0), 2);
+        DUE.unit(x, x.sent() - 1, Due.callUnit(2));
     }
 
     private static void callIsAnswered() {

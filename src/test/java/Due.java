@@ -22,6 +22,18 @@ final class Due {
         }
     }
 
+    void isTrue(String what, boolean got) {
+        is(what, got ? 1 : 0, 1);
+    }
+
+    void same(String what, String got, String want) {
+        asked++;
+        if (!got.equals(want)) {
+            wrong++;
+            System.out.println(what + ":\n  is  " + got + "\n  due " + want);
+        }
+    }
+
     /** told(end, 0), told(end, 1) and so on. */
     void told(TransportFour x, int end, int... wants) {
         for (int what = 0; what < wants.length; what++) {
@@ -109,6 +121,67 @@ final class Due {
 
     static int[] urgentReceiptUnit(int to, int number) {
         return make(32, to, row(number));
+    }
+
+    /** What an object can be asked to do more than once. */
+    interface Calls {
+        int on(TransportFour x);
+    }
+
+    /** Numbers that no end has. */
+    static final int[] NO_ENDS = {Integer.MIN_VALUE, -1, 2, Integer.MAX_VALUE};
+
+    static final int CLOSED = 0;
+    static final int CALLING = 1;
+    static final int OPEN = 2;
+    static final int CLOSING = 3;
+    static final int FROZEN = 4;
+
+    /** An object one of whose ends is in that state, and stays there for at least 8 ticks. */
+    static TransportFour inState(int end, int state) {
+        TransportFour x = state <= CALLING ? new TransportFour() : settled();
+        if (state == CALLING) {
+            lose(x, 0, 1);
+            x.call(end);
+        } else if (state == CLOSING) {
+            lose(x, x.sent(), 1);
+            x.end(end);
+        } else if (state == FROZEN) {
+            x.end(1 - end);
+            x.tick(2);
+        }
+        return x;
+    }
+
+    static void lose(TransportFour x, int first, int many) {
+        for (int number = first; number < first + many; number++) {
+            x.fault(LOST, number, 0, 0);
+        }
+    }
+
+    /** The tape gets so many bytes, from first on. */
+    static void type(TransportFour x, int first, int many) {
+        for (int i = 0; i < many; i++) {
+            x.type(first + i, 1);
+        }
+    }
+
+    /** The tape gets 64 bytes in 8 calls. */
+    static void typeWhole(TransportFour x) {
+        for (int i = 0; i < 8; i++) {
+            x.type(i, 8);
+        }
+    }
+
+    /** So many times 8 DATA of an end go, come, and are taken; 11 calls each time; the peer allows 6 then. */
+    static void passEights(TransportFour x, int end, int times) {
+        for (int i = 0; i < times; i++) {
+            typeWhole(x);
+            x.send(end);
+            x.tick(8);
+            x.take(1 - end);
+            x.tick(2);
+        }
     }
 
     /** End 0 has called: CALL, ANSWER and RECEIPT (0 to 2) were sent, both ends are OPEN, the clock is at 4. */

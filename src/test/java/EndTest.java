@@ -4,6 +4,8 @@ public final class EndTest {
 
     public static void main(String[] args) {
         wrongInputs();
+        onlyAnOpenOrCallingEndEnds();
+        unsentUnitsAreGone();
         openEndEnds();
         callingEndEnds();
         bothEnd();
@@ -24,6 +26,38 @@ public final class EndTest {
         DUE.is("end(-1)", x.end(-1), Due.BAD);
         DUE.is("end when CLOSED", x.end(0), Due.NO);
         DUE.is("sent", x.sent(), 0);
+    }
+
+    private static void onlyAnOpenOrCallingEndEnds() {
+        for (int end = 0; end < 2; end++) {
+            for (int state = Due.CLOSED; state <= Due.FROZEN; state++) {
+                TransportFour x = Due.inState(end, state);
+                boolean may = state == Due.OPEN || state == Due.CALLING;
+                DUE.is("end(" + end + ") in state " + state, x.end(end), may ? 1 : Due.NO);
+                DUE.state(x, end, may ? Due.CLOSING : state);
+            }
+        }
+        TransportFour y = Due.settled();
+        for (int end : Due.NO_ENDS) {
+            DUE.is("end(" + end + ")", y.end(end), Due.BAD);
+        }
+    }
+
+    /** "what it has not sent is gone": of 8 units 6 were sent, of 3 urgent bytes 1; END goes at once. */
+    private static void unsentUnitsAreGone() {
+        TransportFour x = Due.settled();
+        Due.typeWhole(x);
+        x.send(0);
+        x.urge(0, 1);
+        x.urge(0, 2);
+        x.urge(0, 3);
+        DUE.is("sent", x.sent(), 3 + 7);
+        x.end(0);
+        DUE.unit(x, 10, Due.endUnit(1, 1, 0));
+        DUE.is("next number", x.told(0, 3), 6);
+        Due.pass(x, 40);
+        DUE.is("sent, with 6 RECEIPTs, an URGENT RECEIPT and an END RECEIPT", x.sent(), 11 + 8);
+        DUE.told(x, 1, 0, 1, 1, 0, 6, 6, 6, 0, 1);
     }
 
     private static void openEndEnds() {

@@ -4,7 +4,14 @@ public final class FaultTest {
 
     public static void main(String[] args) {
         wrongInputs();
+        kindsAre1To4();
+        numberIsNotYetGiven();
+        placeIs0OrMore();
+        maskIs1To255();
         sixtyMayBeTold();
+        sixtyMayBeToldAndNoMore();
+        refusedFaultsDoNotCount();
+        arrivalTakesTwoTicks();
         lostOne();
         doubledOne();
         delayedOne();
@@ -13,6 +20,8 @@ public final class FaultTest {
         spoiledOne();
         spoiledOneStaysGoodBetween0And255();
         placeIsModuloLength();
+        placeOfTheLengthIsTheFirst();
+        unitIsRecordedAsItWasSent();
         laterSpoilingHolds();
         bothOfADoubledOneAreSpoiled();
         anyOtherSpoilingIsFound();
@@ -33,6 +42,93 @@ public final class FaultTest {
         DUE.is("the next number", x.fault(1, 1, 0, 1), 2);
         DUE.is("the same again", x.fault(1, 1, 0, 1), 3);
         DUE.is("a far number", x.fault(4, Integer.MAX_VALUE, Integer.MAX_VALUE, 255), 4);
+    }
+
+    private static void kindsAre1To4() {
+        TransportFour x = new TransportFour();
+        int[] wrong = {Integer.MIN_VALUE, -1, 0, 5, 6, Integer.MAX_VALUE};
+        for (int kind : wrong) {
+            DUE.is("kind " + kind, x.fault(kind, 9, 0, 1), Due.BAD);
+        }
+        for (int kind = 1; kind <= 4; kind++) {
+            DUE.is("kind " + kind, x.fault(kind, 9, 0, 1), kind);
+        }
+    }
+
+    /** "for a number of sending that was not yet given". */
+    private static void numberIsNotYetGiven() {
+        for (int kind = 1; kind <= 4; kind++) {
+            TransportFour x = new TransportFour();
+            DUE.is("number -1", x.fault(kind, -1, 0, 1), Due.BAD);
+            DUE.is("lowest number", x.fault(kind, Integer.MIN_VALUE, 0, 1), Due.BAD);
+            DUE.is("number 0 before the first unit", x.fault(kind, 0, 0, 1), 1);
+            x = Due.settled();
+            DUE.is("number 0 of 3", x.fault(kind, 0, 0, 1), Due.BAD);
+            DUE.is("number 2 of 3", x.fault(kind, 2, 0, 1), Due.BAD);
+            DUE.is("number 3 of 3", x.fault(kind, 3, 0, 1), 1);
+            DUE.is("highest number", x.fault(kind, Integer.MAX_VALUE, 0, 1), 2);
+        }
+    }
+
+    private static void placeIs0OrMore() {
+        TransportFour x = new TransportFour();
+        DUE.is("place -1", x.fault(4, 0, -1, 1), Due.BAD);
+        DUE.is("lowest place", x.fault(4, 0, Integer.MIN_VALUE, 1), Due.BAD);
+        DUE.is("place 0", x.fault(4, 0, 0, 1), 1);
+        DUE.is("highest place", x.fault(4, 0, Integer.MAX_VALUE, 1), 2);
+        for (int kind = 1; kind <= 3; kind++) {
+            DUE.is("place -1 for kind " + kind, x.fault(kind, 0, -1, 1), 2 + kind);
+        }
+    }
+
+    private static void maskIs1To255() {
+        TransportFour x = new TransportFour();
+        int[] wrong = {Integer.MIN_VALUE, -255, -1, 0, 256, 257, Integer.MAX_VALUE};
+        for (int mask : wrong) {
+            DUE.is("mask " + mask, x.fault(4, 0, 0, mask), Due.BAD);
+        }
+        DUE.is("mask 1", x.fault(4, 0, 0, 1), 1);
+        DUE.is("mask 255", x.fault(4, 0, 0, 255), 2);
+        for (int kind = 1; kind <= 3; kind++) {
+            DUE.is("mask 0 for kind " + kind, x.fault(kind, 0, 0, 0), 2 + kind);
+            DUE.is("mask 256 for kind " + kind, Due.settled().fault(kind, 3, 0, 256), 1);
+        }
+    }
+
+    /** "FULL when there are 60": the sixtieth does what it tells, the sixty-first does not. */
+    private static void sixtyMayBeToldAndNoMore() {
+        TransportFour x = Due.settled();
+        for (int i = 1; i <= 59; i++) {
+            DUE.is("fault " + i, x.fault(1 + i % 4, 1000 + i, 0, 1), i);
+        }
+        DUE.is("fault 60", x.fault(Due.LOST, 3, 0, 0), 60);
+        DUE.is("fault 61", x.fault(Due.LOST, 4, 0, 0), Due.FULL);
+        x.send(0);
+        x.send(0);
+        x.tick(2);
+        DUE.is("the second one alone came", x.sent(), 6);
+        DUE.is("messages", x.told(1, 7), 0);
+        x.tick(8);
+        DUE.is("messages then", x.told(1, 7), 2);
+        DUE.is("faults that are over count", x.fault(Due.LOST, 999, 0, 0), Due.FULL);
+    }
+
+    private static void refusedFaultsDoNotCount() {
+        TransportFour x = new TransportFour();
+        DUE.is("one", x.fault(1, 5, 0, 0), 1);
+        DUE.is("kind 0", x.fault(0, 5, 0, 0), Due.BAD);
+        DUE.is("mask 0", x.fault(4, 5, 0, 0), Due.BAD);
+        DUE.is("two", x.fault(1, 5, 0, 0), 2);
+    }
+
+    /** "arrives DELAY (2) ticks later". */
+    private static void arrivalTakesTwoTicks() {
+        TransportFour x = Due.settled();
+        x.urge(1, 8);
+        x.tick(1);
+        DUE.is("urgent one tick later", x.urgent(0), Due.NO);
+        x.tick(1);
+        DUE.is("urgent two ticks later", x.urgent(0), 8);
     }
 
     private static void sixtyMayBeTold() {
@@ -139,6 +235,42 @@ public final class FaultTest {
         x.type(0, 1);
         x.send(0);
         x.tick(2);
+        x.take(1);
+        DUE.is("read", x.read(1, 0), 255);
+    }
+
+    /** "(modulo its length)": a DATA of two bytes is 11 long; place 11 is its byte 0, place 21 its last one. */
+    private static void placeOfTheLengthIsTheFirst() {
+        int[] places = {10, 21, 11 * 1000 + 10};
+        for (int place : places) {
+            TransportFour x = Due.settled();
+            x.fault(Due.SPOILED, 3, place, 255);
+            x.type(0, 2);
+            x.send(0);
+            x.tick(2);
+            DUE.is("take with place " + place, x.take(1), 2);
+            DUE.is("first byte with place " + place, x.read(1, 0), 0);
+            DUE.is("last byte with place " + place, x.read(1, 1), 255);
+        }
+        int[] bad = {0, 11, 22, Integer.MAX_VALUE - Integer.MAX_VALUE % 11};
+        for (int place : bad) {
+            TransportFour x = Due.settled();
+            x.fault(Due.SPOILED, 3, place, 255);
+            x.type(0, 2);
+            x.send(0);
+            x.tick(2);
+            DUE.is("take with place " + place, x.take(1), Due.NO);
+        }
+    }
+
+    private static void unitIsRecordedAsItWasSent() {
+        TransportFour x = Due.settled();
+        x.fault(Due.SPOILED, 3, 9, 255);
+        x.type(0, 1);
+        x.send(0);
+        DUE.unit(x, 3, Due.dataUnit(1, 0, true, 0));
+        x.tick(2);
+        DUE.unit(x, 3, Due.dataUnit(1, 0, true, 0));
         x.take(1);
         DUE.is("read", x.read(1, 0), 255);
     }

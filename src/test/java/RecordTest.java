@@ -6,6 +6,9 @@ public final class RecordTest {
         countGoesUpWithEachUnit();
         wrongInputs();
         onlyTheLast64AreKept();
+        theLast64AreAsTheyWereSent();
+        lastByteOfEachKind();
+        lostUnitIsRecorded();
         DUE.finish();
     }
 
@@ -52,15 +55,67 @@ public final class RecordTest {
         DUE.is("sent", x.sent(), 65);
         DUE.is("number 0", x.byteOf(0, 0), Due.BAD);
         DUE.unit(x, 1, Due.answerUnit(1, 1));
-        for (int i = 31; i < 120; i++) {
+    }
+
+    /** 243 units are sent, so that all places of any store were used again: 179 to 242 are the last 64. */
+    private static TransportFour manySent() {
+        TransportFour x = Due.opened();
+        for (int i = 0; i < 120; i++) {
             x.urge(0, i);
             x.tick(4);
         }
+        return x;
+    }
+
+    private static void theLast64AreAsTheyWereSent() {
+        TransportFour x = manySent();
         DUE.is("sent", x.sent(), 243);
         DUE.is("number 178", x.byteOf(178, 0), Due.BAD);
-        for (int i = 89; i < 120; i++) {
-            DUE.unit(x, 3 + 2 * i, Due.urgentUnit(1, i, i));
-            DUE.unit(x, 4 + 2 * i, Due.urgentReceiptUnit(1, i + 1));
+        DUE.is("number 243", x.byteOf(243, 0), Due.BAD);
+        for (int i = 88; i < 104; i++) {
+            DUE.is("byte 4 of " + (4 + 2 * i), x.byteOf(4 + 2 * i, 4), i + 1);
+            DUE.is("byte 9 of " + (5 + 2 * i), x.byteOf(5 + 2 * i, 9), i + 1);
         }
+        TransportFour y = manySent();
+        for (int i = 112; i < 120; i++) {
+            DUE.unit(y, 3 + 2 * i, Due.urgentUnit(1, i, i));
+            DUE.unit(y, 4 + 2 * i, Due.urgentReceiptUnit(1, i + 1));
+        }
+    }
+
+    /** "Byte i of a unit": the last byte of each length, and the one behind. */
+    private static void lastByteOfEachKind() {
+        TransportFour x = Due.settled();
+        lastByteIs(x, 0, 10, 223);
+        lastByteIs(x, 1, 10, 101);
+        lastByteIs(x, 2, 8, 44);
+        x.send(0);
+        lastByteIs(x, 3, 8, 236);
+        x.type(0x0102030405060708L, 8);
+        x.send(0);
+        lastByteIs(x, 4, 16, 8);
+        x.urge(0, 77);
+        lastByteIs(x, 5, 9, 77);
+        x.end(0);
+        lastByteIs(x, 6, 10, 241);
+        x.tick(2);
+        lastByteIs(x, 10, 9, 31);
+    }
+
+    private static void lastByteIs(TransportFour x, int number, int i, int want) {
+        DUE.is("byte " + i + " of " + number, x.byteOf(number, i), want);
+        DUE.is("byte " + (i + 1) + " of " + number, x.byteOf(number, i + 1), Due.BAD);
+        DUE.is("byte -1 of " + number, x.byteOf(number, -1), Due.BAD);
+        DUE.is("lowest byte of " + number, x.byteOf(number, Integer.MIN_VALUE), Due.BAD);
+    }
+
+    /** A unit that is lost was sent all the same. */
+    private static void lostUnitIsRecorded() {
+        TransportFour x = new TransportFour();
+        Due.lose(x, 0, 1);
+        x.call(1);
+        x.tick(3);
+        DUE.is("sent", x.sent(), 1);
+        DUE.unit(x, 0, Due.callUnit(1));
     }
 }

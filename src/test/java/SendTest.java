@@ -3,21 +3,59 @@ public final class SendTest {
     private static final Due DUE = new Due();
 
     public static void main(String[] args) {
+        typeTakesOneToEight();
         tapeTakesTheLowestBytes();
         tapeIsFullAt64();
+        tapeMayHave64AndNoMore();
         sendNeedsAnOpenEnd();
+        onlyAnOpenEndSends();
+        tapeStaysWhenRefused();
+        tapeIsEmptyThen();
         messageGoesInPieces();
+        eachLengthComesAsItWas();
         fortyUnitsMayWait();
+        fortyUnitsMayWaitAndNoMore();
+        receiptsMakeRoom();
+        eachEndHasFortyOfItsOwn();
         creditHoldsBack();
         dataIsSentAgainByItsOrder();
         dataIsGivenUp();
         othersAreSentAgainInTheTickOfGivingUp();
         receiptOutsideIsLeft();
         keptOnceAndPutInOrder();
-        numbersGoRound();
         spoiledNumberIsAnotherOne();
         spoiledNumberIsKeptOnce();
         DUE.finish();
+    }
+
+    /** "BAD when n is not 1 .. 8". */
+    private static void typeTakesOneToEight() {
+        TransportFour x = new TransportFour();
+        for (int n : new int[] {Integer.MIN_VALUE, -8, -1, 0, 9, 10, 64, Integer.MAX_VALUE}) {
+            DUE.is("type " + n, x.type(-1L, n), Due.BAD);
+        }
+        int length = 0;
+        for (int n = 1; n <= 8; n++) {
+            length += n;
+            DUE.is("type " + n, x.type(-1L, n), length);
+        }
+        for (int n = 1; n <= 8; n++) {
+            lowestBytesAreTaken(n);
+        }
+    }
+
+    /** "The lowest n bytes of bytes, the highest of them first, come behind the tape". */
+    private static void lowestBytesAreTaken(int n) {
+        TransportFour x = Due.settled();
+        x.type(0x99, 1);
+        x.type(0xf1e2d3c4b5a69788L, n);
+        x.send(0);
+        x.tick(2);
+        DUE.is("take", x.take(1), n + 1);
+        DUE.is("what was there before", x.read(1, 0), 0x99);
+        for (int i = 1; i <= n; i++) {
+            DUE.is("byte " + i + " of " + n, x.read(1, i), (0xf1e2d3c4b5a69788L >>> (8 * (n - i))) & 255);
+        }
     }
 
     private static void tapeTakesTheLowestBytes() {
@@ -46,6 +84,75 @@ public final class SendTest {
         DUE.is("type 3 more", x.type(0, 3), 64);
         DUE.is("type 1 more", x.type(0, 1), Due.FULL);
         DUE.is("BAD before FULL", x.type(0, 9), Due.BAD);
+    }
+
+    /** "FULL when it would have more than 64": for each n, n behind 64 - n and behind 65 - n. */
+    private static void tapeMayHave64AndNoMore() {
+        for (int n = 1; n <= 8; n++) {
+            TransportFour x = new TransportFour();
+            Due.type(x, 0, 64 - n);
+            DUE.is("type " + n + " behind " + (64 - n), x.type(0, n), 64);
+            TransportFour y = new TransportFour();
+            Due.type(y, 0, 65 - n);
+            DUE.is("type " + n + " behind " + (65 - n), y.type(0, n), Due.FULL);
+            for (int less = n - 1; less >= 1; less--) {
+                TransportFour z = new TransportFour();
+                Due.type(z, 0, 65 - n);
+                DUE.is("type " + less + " behind " + (65 - n), z.type(0, less), 65 - n + less);
+            }
+        }
+    }
+
+    private static void onlyAnOpenEndSends() {
+        for (int end = 0; end < 2; end++) {
+            for (int state = Due.CLOSED; state <= Due.FROZEN; state++) {
+                TransportFour x = Due.inState(end, state);
+                DUE.is("send(" + end + ") in state " + state, x.send(end), state == Due.OPEN ? 1 : Due.NO);
+            }
+        }
+        TransportFour y = Due.settled();
+        for (int end : Due.NO_ENDS) {
+            DUE.is("send(" + end + ")", y.send(end), Due.BAD);
+        }
+    }
+
+    /** "NO; BAD (the tape stays); FULL .. (the tape stays)": what it holds, too. */
+    private static void tapeStaysWhenRefused() {
+        TransportFour x = new TransportFour();
+        x.type(0x0102, 2);
+        DUE.is("send when CLOSED", x.send(0), Due.NO);
+        DUE.is("send(2)", x.send(2), Due.BAD);
+        x.call(0);
+        DUE.is("send when CALLING", x.send(0), Due.NO);
+        x.tick(6);
+        DUE.is("one byte more", x.type(3, 1), 3);
+        x.send(0);
+        DUE.unit(x, 3, Due.dataUnit(1, 0, true, 1, 2, 3));
+
+        TransportFour y = Due.settled();
+        for (int i = 0; i < 40; i++) {
+            y.send(0);
+        }
+        y.type(0x0102, 2);
+        DUE.is("send behind 40", y.send(0), Due.FULL);
+        DUE.is("one byte more", y.type(3, 1), 3);
+        y.tick(4);
+        DUE.is("send when there is room", y.send(0), 35);
+        DUE.is("the tape is empty", y.type(1, 1), 1);
+        DUE.is("the other end may send it", y.send(1), 1);
+        DUE.unit(y, y.sent() - 1, Due.dataUnit(1, 0, true, 1));
+    }
+
+    /** "The tape is empty then": the next message has no bytes. */
+    private static void tapeIsEmptyThen() {
+        TransportFour x = Due.settled();
+        Due.typeWhole(x);
+        x.send(0);
+        DUE.is("type", x.type(9, 1), 1);
+        x.send(1);
+        x.send(1);
+        DUE.unit(x, x.sent() - 2, Due.dataUnit(1, 0, true, 9));
+        DUE.unit(x, x.sent() - 1, Due.dataUnit(1, 1, true));
     }
 
     private static void sendNeedsAnOpenEnd() {
@@ -89,16 +196,80 @@ public final class SendTest {
         DUE.is("nothing waits but this", x.send(0), 1);
     }
 
-    private static void typeWhole(TransportFour x) {
-        for (int i = 0; i < 8; i++) {
-            x.type(i, 8);
+    /** "in pieces of 8 bytes .. (1 .. 8, or none in the last one of an empty message)". */
+    private static void eachLengthComesAsItWas() {
+        for (int length = 0; length <= 64; length++) {
+            TransportFour x = Due.settled();
+            Due.type(x, 100, length);
+            int units = length == 0 ? 1 : (length + 7) / 8;
+            DUE.is("units of " + length + " bytes", x.send(0), units);
+            piecesAreOf(x, length, Math.min(units, 6));
+            x.tick(8);
+            DUE.is("take of " + length, x.take(1), length);
+            for (int i = 0; i < length; i++) {
+                DUE.is("byte " + i + " of " + length, x.read(1, i), 100 + i);
+            }
+            DUE.is("byte behind", x.read(1, length), Due.BAD);
         }
+    }
+
+    private static void piecesAreOf(TransportFour x, int length, int units) {
+        DUE.is("units sent at once", x.sent() - 3, units);
+        for (int unit = 0; unit < units; unit++) {
+            int[] body = new int[Math.min(8, length - 8 * unit)];
+            for (int i = 0; i < body.length; i++) {
+                body[i] = 100 + 8 * unit + i;
+            }
+            DUE.unit(x, 3 + unit, Due.dataUnit(1, unit, 8 * (unit + 1) >= length, body));
+        }
+    }
+
+    /** "FULL when there would be more than 40": messages of 1 to 8 units, behind as many as just leave room. */
+    private static void fortyUnitsMayWaitAndNoMore() {
+        for (int units = 1; units <= 8; units++) {
+            TransportFour x = Due.settled();
+            TransportFour y = Due.settled();
+            for (int i = 0; i < 40 - units; i++) {
+                x.send(0);
+                y.send(0);
+            }
+            y.send(0);
+            Due.type(x, 0, 8 * units - 7);
+            Due.type(y, 0, 8 * units - 7);
+            DUE.is(units + " units behind " + (40 - units), x.send(0), 40);
+            DUE.is(units + " units behind " + (41 - units), y.send(0), Due.FULL);
+        }
+    }
+
+    /** Six of 40 were sent; each RECEIPT makes room for one more. */
+    private static void receiptsMakeRoom() {
+        TransportFour x = Due.settled();
+        for (int i = 0; i < 40; i++) {
+            x.send(0);
+        }
+        x.tick(3);
+        DUE.is("send before the RECEIPTs", x.send(0), Due.FULL);
+        x.tick(1);
+        for (int i = 35; i <= 40; i++) {
+            DUE.is("send behind the RECEIPTs", x.send(0), i);
+        }
+        DUE.is("send behind 40", x.send(0), Due.FULL);
+    }
+
+    private static void eachEndHasFortyOfItsOwn() {
+        TransportFour x = Due.settled();
+        for (int i = 1; i <= 40; i++) {
+            DUE.is("send(0)", x.send(0), i);
+            DUE.is("send(1)", x.send(1), i);
+        }
+        DUE.is("send(0) behind 40", x.send(0), Due.FULL);
+        DUE.is("send(1) behind 40", x.send(1), Due.FULL);
     }
 
     private static void fortyUnitsMayWait() {
         TransportFour x = Due.settled();
         for (int i = 1; i <= 4; i++) {
-            typeWhole(x);
+            Due.typeWhole(x);
             DUE.is("send", x.send(1), 8 * i);
         }
         for (int i = 0; i < 7; i++) {
@@ -228,20 +399,6 @@ public final class SendTest {
             DUE.is("read", x.read(1, 0), i);
         }
         DUE.is("no more", x.take(1), Due.NO);
-    }
-
-    private static void numbersGoRound() {
-        TransportFour x = Due.opened();
-        for (int i = 0; i < 130; i++) {
-            x.send(0);
-            x.tick(2);
-            DUE.is("take " + i, x.take(1), 0);
-            x.tick(2);
-        }
-        DUE.is("next number", x.told(0, 3), 2);
-        DUE.is("expected number", x.told(1, 4), 2);
-        // Taken while the credit was not 0: the latest RECEIPT still told 5.
-        DUE.is("allowed", x.told(0, 6), 2 + 5);
     }
 
     /** Number 0 of no last unit is spoiled to 255: number 127, the last one of a message. */

@@ -4,6 +4,12 @@ public final class TakeTest {
 
     public static void main(String[] args) {
         wrongInputs();
+        takingIsForTwoEnds();
+        noMessageIsNo();
+        emptyMessageIsAMessage();
+        bytesOfTheMessageTakenLatest();
+        nothingTakenHasNoByte();
+        refusedTakeKeepsTheLatest();
         messagesAreTakenInOrder();
         unfinishedMessageIsNotThere();
         longMessageTakesAllCredit();
@@ -24,6 +30,93 @@ public final class TakeTest {
         DUE.is("read(0, 0)", x.read(0, 0), Due.BAD);
         DUE.is("read(2, 0)", x.read(2, 0), Due.BAD);
         DUE.is("read(-1, 0)", x.read(-1, 0), Due.BAD);
+    }
+
+    private static void takingIsForTwoEnds() {
+        TransportFour x = Due.settled();
+        x.type(1, 1);
+        x.send(0);
+        x.type(2, 1);
+        x.send(1);
+        x.tick(2);
+        for (int end : Due.NO_ENDS) {
+            DUE.is("take(" + end + ")", x.take(end), Due.BAD);
+            DUE.is("read(" + end + ", 0)", x.read(end, 0), Due.BAD);
+        }
+        DUE.is("take(0)", x.take(0), 1);
+        DUE.is("take(1)", x.take(1), 1);
+        DUE.is("read(0, 0)", x.read(0, 0), 2);
+        DUE.is("read(1, 0)", x.read(1, 0), 1);
+    }
+
+    /** "NO when none is": in no state, before one came, and when all were taken. */
+    private static void noMessageIsNo() {
+        for (int state = Due.CLOSED; state <= Due.FROZEN; state++) {
+            DUE.is("take(0) in state " + state, Due.inState(0, state).take(0), Due.NO);
+            DUE.is("take(1) in state " + state, Due.inState(1, state).take(1), Due.NO);
+        }
+        TransportFour x = Due.settled();
+        x.send(0);
+        x.tick(1);
+        DUE.is("take before it came", x.take(1), Due.NO);
+        x.tick(1);
+        DUE.is("take when it came", x.take(1), 0);
+        DUE.is("take when it was taken", x.take(1), Due.NO);
+    }
+
+    private static void emptyMessageIsAMessage() {
+        TransportFour x = Due.settled();
+        x.send(0);
+        x.tick(2);
+        DUE.told(x, 1, 2, 1, 1, 0, 1, 5, 6, 1);
+        DUE.is("take", x.take(1), 0);
+        DUE.told(x, 1, 2, 1, 1, 0, 1, 6, 6, 0);
+        DUE.is("read(1, 0)", x.read(1, 0), Due.BAD);
+    }
+
+    /** "Byte i of the message taken latest at an end; BAD when there is none." */
+    private static void bytesOfTheMessageTakenLatest() {
+        int[] none = {Integer.MIN_VALUE, -1, 3, 4, 64, Integer.MAX_VALUE};
+        TransportFour x = Due.settled();
+        Due.type(x, 50, 9);
+        x.send(0);
+        x.type(0x00ff80, 3);
+        x.send(0);
+        x.send(0);
+        x.tick(2);
+        x.take(1);
+        DUE.is("read(1, 8)", x.read(1, 8), 58);
+        DUE.is("read(1, 9)", x.read(1, 9), Due.BAD);
+        x.take(1);
+        DUE.is("read(1, 0)", x.read(1, 0), 0);
+        DUE.is("read(1, 1)", x.read(1, 1), 255);
+        DUE.is("read(1, 2)", x.read(1, 2), 128);
+        for (int i : none) {
+            DUE.is("read(1, " + i + ")", x.read(1, i), Due.BAD);
+        }
+        x.take(1);
+        DUE.is("read(1, 0) of an empty one", x.read(1, 0), Due.BAD);
+    }
+
+    private static void nothingTakenHasNoByte() {
+        TransportFour x = Due.settled();
+        x.type(5, 1);
+        x.send(0);
+        x.tick(2);
+        DUE.is("read before it is taken", x.read(1, 0), Due.BAD);
+        x.take(1);
+        DUE.is("read when it is taken", x.read(1, 0), 5);
+        DUE.is("read at its sender", x.read(0, 0), Due.BAD);
+    }
+
+    private static void refusedTakeKeepsTheLatest() {
+        TransportFour x = Due.settled();
+        x.type(5, 1);
+        x.send(0);
+        x.tick(2);
+        x.take(1);
+        DUE.is("take", x.take(1), Due.NO);
+        DUE.is("read", x.read(1, 0), 5);
     }
 
     private static void messagesAreTakenInOrder() {
@@ -70,7 +163,7 @@ public final class TakeTest {
 
     private static void longMessageTakesAllCredit() {
         TransportFour x = Due.settled();
-        typeWhole(x);
+        Due.typeWhole(x);
         x.send(0);
         x.tick(6);
         DUE.told(x, 1, 2, 1, 1, 0, 8, 0, 6, 1);
@@ -82,16 +175,10 @@ public final class TakeTest {
         DUE.is("read 64", x.read(1, 64), Due.BAD);
     }
 
-    private static void typeWhole(TransportFour x) {
-        for (int i = 0; i < 8; i++) {
-            x.type(i, 8);
-        }
-    }
-
     private static void takingWithoutCreditTellsIt() {
         TransportFour x = Due.settled();
         x.send(0);
-        typeWhole(x);
+        Due.typeWhole(x);
         x.send(0);
         x.tick(6);
         DUE.told(x, 1, 2, 1, 1, 0, 9, 0, 6, 2);
@@ -107,7 +194,7 @@ public final class TakeTest {
     private static void keptUnitsNeedNoMoreCredit() {
         TransportFour x = Due.settled();
         x.fault(Due.DELAYED, 16, 0, 1);
-        typeWhole(x);
+        Due.typeWhole(x);
         x.send(0);
         x.send(0);
         x.send(0);
@@ -126,7 +213,7 @@ public final class TakeTest {
     /** The same without a delay: when DATA 7 ends the message, 8 finds no credit and is not kept. */
     private static void dataWithoutCreditIsNotKept() {
         TransportFour x = Due.settled();
-        typeWhole(x);
+        Due.typeWhole(x);
         x.send(0);
         x.send(0);
         x.tick(6);

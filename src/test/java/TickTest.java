@@ -4,11 +4,15 @@ public final class TickTest {
 
     public static void main(String[] args) {
         wrongInputs();
+        oneToTwentyTicks();
         clockEndsAt3000();
+        lastTicksOfTheClock();
+        onlyTicksMoveTheClock();
         manyTicksAreAsManySingleOnes();
         arrivalsGoByWhenTheyWereSent();
         secondArrivalsComeBehind();
         end0ActsBeforeEnd1();
+        answerThenDataThenUrgentAreSentAgain();
         silenceGetsReceipts();
         deafEndGivesUp();
         noReceiptInTheTickOfGivingUp();
@@ -39,6 +43,48 @@ public final class TickTest {
         DUE.is("tick(1)", x.tick(1), Due.FULL);
         DUE.is("BAD before FULL", x.tick(21), Due.BAD);
         DUE.is("clock", x.clock(), 3000);
+    }
+
+    /** "So many (1 .. 20) ticks". */
+    private static void oneToTwentyTicks() {
+        int[] wrong = {Integer.MIN_VALUE, -20, -1, 0, 21, 22, 3001, Integer.MAX_VALUE};
+        for (int many : wrong) {
+            TransportFour x = new TransportFour();
+            DUE.is("tick(" + many + ")", x.tick(many), Due.BAD);
+            DUE.is("clock", x.clock(), 0);
+        }
+        for (int many = 1; many <= 20; many++) {
+            TransportFour x = new TransportFour();
+            DUE.is("tick(" + many + ")", x.tick(many), many);
+            DUE.is("clock", x.clock(), many);
+        }
+    }
+
+    /** "FULL when it would be above 3000": so many ticks end at 3000, or would end at 3001. */
+    private static void lastTicksOfTheClock() {
+        for (int many = 1; many <= 20; many++) {
+            TransportFour x = new TransportFour();
+            Due.pass(x, 3000 - many);
+            DUE.is("tick(" + many + ") at " + (3000 - many), x.tick(many), 3000);
+            DUE.is("tick(1) at 3000", x.tick(1), Due.FULL);
+            TransportFour y = new TransportFour();
+            Due.pass(y, 3001 - many);
+            DUE.is("tick(" + many + ") at " + (3001 - many), y.tick(many), Due.FULL);
+            DUE.is("clock", y.clock(), 3001 - many);
+        }
+    }
+
+    private static void onlyTicksMoveTheClock() {
+        TransportFour x = Due.settled();
+        x.type(1, 1);
+        x.send(0);
+        x.urge(1, 1);
+        x.fault(1, 9, 0, 0);
+        x.take(0);
+        x.urgent(0);
+        x.end(1);
+        x.call(1);
+        DUE.is("clock", x.clock(), 6);
     }
 
     private static void manyTicksAreAsManySingleOnes() {
@@ -97,6 +143,27 @@ public final class TickTest {
         x.tick(8);
         DUE.unit(x, 5, Due.urgentUnit(1, 0, 2));
         DUE.unit(x, 6, Due.urgentUnit(1, 0, 1));
+    }
+
+    /** "(CALL, ANSWER or END first, then DATA by its order, then URGENT)". */
+    private static void answerThenDataThenUrgentAreSentAgain() {
+        TransportFour x = new TransportFour();
+        Due.lose(x, 1, 5);
+        x.call(0);
+        x.tick(2);
+        x.urge(1, 7);
+        x.type(1, 1);
+        x.send(1);
+        x.type(2, 1);
+        x.send(1);
+        x.tick(7);
+        DUE.is("sent at 9", x.sent(), 6);
+        x.tick(1);
+        DUE.is("sent at 10", x.sent(), 10);
+        DUE.unit(x, 6, Due.answerUnit(1, 1));
+        DUE.unit(x, 7, Due.dataUnit(1, 0, true, 1));
+        DUE.unit(x, 8, Due.dataUnit(1, 1, true, 2));
+        DUE.unit(x, 9, Due.urgentUnit(1, 0, 7));
     }
 
     private static void silenceGetsReceipts() {

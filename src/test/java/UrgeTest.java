@@ -4,6 +4,11 @@ public final class UrgeTest {
 
     public static void main(String[] args) {
         wrongInputs();
+        onlyAnOpenEndUrges();
+        bytesAre0To255();
+        wrongByteIsBadInEachState();
+        eachEndHasEightOfItsOwn();
+        noUrgentByteIsNo();
         oneGoesAtATime();
         eightMayWait();
         lostOneIsSentAgain();
@@ -12,6 +17,7 @@ public final class UrgeTest {
         urgentGoesBesideDataWithoutCredit();
         bytesStayTillTheNextConnection();
         numbersGoRound();
+        asManyAs512CallsLetComeStay();
         DUE.finish();
     }
 
@@ -32,6 +38,71 @@ public final class UrgeTest {
         DUE.is("urge(1, 0)", x.urge(1, 0), 1);
         x.end(0);
         DUE.is("urge when CLOSING", x.urge(0, 1), Due.NO);
+    }
+
+    private static void onlyAnOpenEndUrges() {
+        for (int end = 0; end < 2; end++) {
+            for (int state = Due.CLOSED; state <= Due.FROZEN; state++) {
+                TransportFour x = Due.inState(end, state);
+                DUE.is("urge(" + end + ", 1) in state " + state, x.urge(end, 1), state == Due.OPEN ? 1 : Due.NO);
+            }
+        }
+        TransportFour y = Due.settled();
+        for (int end : Due.NO_ENDS) {
+            DUE.is("urge(" + end + ", 1)", y.urge(end, 1), Due.BAD);
+            DUE.is("urgent(" + end + ")", y.urgent(end), Due.BAD);
+        }
+    }
+
+    /** "An urgent byte (0 .. 255)": 0 that is taken is not NO. */
+    private static void bytesAre0To255() {
+        int[] bytes = {0, 1, 127, 128, 254, 255};
+        TransportFour x = Due.settled();
+        for (int i = 0; i < bytes.length; i++) {
+            DUE.is("urge(0, " + bytes[i] + ")", x.urge(0, bytes[i]), i + 1);
+        }
+        for (int b : new int[] {Integer.MIN_VALUE, -256, -1, 256, 257, Integer.MAX_VALUE}) {
+            DUE.is("urge(0, " + b + ")", x.urge(0, b), Due.BAD);
+        }
+        Due.pass(x, 26);
+        DUE.is("urgent bytes there", x.told(1, 8), bytes.length);
+        for (int b : bytes) {
+            DUE.is("urgent(1)", x.urgent(1), b);
+        }
+        DUE.is("urgent(1)", x.urgent(1), Due.NO);
+    }
+
+    private static void wrongByteIsBadInEachState() {
+        for (int state = Due.CLOSED; state <= Due.FROZEN; state++) {
+            DUE.is("urge(0, -1) in state " + state, Due.inState(0, state).urge(0, -1), Due.BAD);
+            DUE.is("urge(0, 256) in state " + state, Due.inState(0, state).urge(0, 256), Due.BAD);
+        }
+    }
+
+    private static void eachEndHasEightOfItsOwn() {
+        TransportFour x = Due.settled();
+        for (int i = 1; i <= 8; i++) {
+            DUE.is("urge(0, " + i + ")", x.urge(0, i), i);
+            DUE.is("urge(1, " + i + ")", x.urge(1, i), i);
+        }
+        DUE.is("urge(0, 9)", x.urge(0, 9), Due.FULL);
+        DUE.is("urge(1, 9)", x.urge(1, 9), Due.FULL);
+        x.tick(3);
+        DUE.is("urge(0, 9) before the receipt", x.urge(0, 9), Due.FULL);
+        x.tick(1);
+        DUE.is("urge(0, 9) behind the receipt", x.urge(0, 9), 8);
+        DUE.is("urge(0, 10)", x.urge(0, 10), Due.FULL);
+    }
+
+    private static void noUrgentByteIsNo() {
+        TransportFour x = Due.settled();
+        x.urge(0, 3);
+        x.tick(1);
+        DUE.is("urgent before it came", x.urgent(1), Due.NO);
+        x.tick(1);
+        DUE.is("urgent when it came", x.urgent(1), 3);
+        DUE.is("urgent when it was taken", x.urgent(1), Due.NO);
+        DUE.is("urgent bytes there", x.told(1, 8), 0);
     }
 
     private static void oneGoesAtATime() {
@@ -138,6 +209,22 @@ public final class UrgeTest {
         x.tick(4);
         x.urge(0, 3);
         DUE.unit(x, x.sent() - 1, Due.urgentUnit(2, 0, 3));
+    }
+
+    /** 8 urgent bytes take 10 calls: 50 times that is nearly all for which an object is used. */
+    private static void asManyAs512CallsLetComeStay() {
+        TransportFour x = Due.settled();
+        for (int i = 0; i < 50; i++) {
+            for (int k = 0; k < 8; k++) {
+                x.urge(1, (8 * i + k) % 256);
+            }
+            x.tick(20);
+            x.tick(12);
+        }
+        DUE.is("urgent bytes there", x.told(0, 8), 400);
+        DUE.is("the first", x.urgent(0), 0);
+        DUE.is("the second", x.urgent(0), 1);
+        DUE.is("what is left", x.told(0, 8), 398);
     }
 
     private static void numbersGoRound() {
