@@ -22,6 +22,8 @@ public final class ArrivalTest {
         urgentAgainToAnOpenEnd();
         urgentToAnEndWithoutAConnection();
         urgentReceiptOfAnotherNumber();
+        receiptIsNoUrgentReceipt();
+        urgentReceiptIsNoReceipt();
         endToACallingEnd();
         endToAnOpenEnd();
         endToAClosingEnd();
@@ -302,6 +304,31 @@ public final class ArrivalTest {
         DUE.unit(x, 5, Due.urgentUnit(1, 1, 9));
         x.tick(7);
         DUE.unit(x, 6, Due.urgentUnit(1, 1, 9));
+    }
+
+    /** RECEIPT 1 comes while URGENT 0, which was lost, waits. */
+    private static void receiptIsNoUrgentReceipt() {
+        TransportFour x = Due.settled();
+        Due.lose(x, 3, 1);
+        x.urge(0, 8);
+        x.send(0);
+        x.tick(4);
+        DUE.unit(x, 5, Due.receiptUnit(1, 1, 5));
+        DUE.is("what waits", x.urge(0, 9), 2);
+        x.tick(4);
+        DUE.unit(x, 6, Due.urgentUnit(1, 0, 8));
+    }
+
+    /** URGENT RECEIPT 1 comes while DATA 0, which was lost, waits. */
+    private static void urgentReceiptIsNoReceipt() {
+        TransportFour x = Due.settled();
+        Due.lose(x, 3, 1);
+        x.send(0);
+        x.urge(0, 8);
+        x.tick(4);
+        DUE.unit(x, 5, Due.urgentReceiptUnit(1, 1));
+        DUE.is("allowed", x.told(0, 6), 6);
+        DUE.is("what waits", x.send(0), 2);
     }
 
     /** "the end is FROZEN (CALLING: CLOSED)". */

@@ -16,6 +16,7 @@ public final class CallTest {
         answerAgainGetsReceipt();
         spoiledAnswerGivesAnotherPeer();
         referencesGoOn();
+        connectionMayBeginLate();
         DUE.finish();
     }
 
@@ -217,6 +218,25 @@ public final class CallTest {
         DUE.is("ANSWER again at 10", x.sent(), 4);
         x.tick(2);
         DUE.is("an ANSWER of another reference is left", x.sent(), 4);
+    }
+
+    /** More than 50 ticks before any connection are no reason to give up. */
+    private static void connectionMayBeginLate() {
+        TransportFour x = new TransportFour();
+        Due.pass(x, 200);
+        x.call(0);
+        x.tick(2);
+        DUE.told(x, 1, 2, 1, 1, 0, 0, 6, 6, 0, 0, -1);
+        DUE.is("sent at 202", x.sent(), 2);
+        x.tick(2);
+        DUE.told(x, 0, 2, 1, 1, 0, 0, 6, 6, 0, 0, -1);
+        DUE.is("sent at 204", x.sent(), 3);
+        x.end(0);
+        Due.pass(x, 200);
+        x.call(1);
+        x.tick(4);
+        DUE.told(x, 0, 2, 2, 2, 0, 0, 6, 6, 0, 0, -1);
+        DUE.told(x, 1, 2, 2, 2, 0, 0, 6, 6, 0, 0, -1);
     }
 
     private static void referencesGoOn() {

@@ -24,6 +24,7 @@ public final class FaultTest {
         unitIsRecordedAsItWasSent();
         laterSpoilingHolds();
         bothOfADoubledOneAreSpoiled();
+        faultIsForItsNumberAlone();
         anyOtherSpoilingIsFound();
         DUE.finish();
     }
@@ -294,6 +295,27 @@ public final class FaultTest {
         x.send(0);
         x.tick(4);
         DUE.is("none was good", x.sent(), 4);
+    }
+
+    /** Each of units 3 to 6 has a fault; none of the 400 units behind them has one. */
+    private static void faultIsForItsNumberAlone() {
+        TransportFour x = Due.settled();
+        for (int kind = 1; kind <= 4; kind++) {
+            x.fault(kind, 2 + kind, 1, 1);
+        }
+        x.urge(0, 1);
+        Due.pass(x, 40);
+        DUE.is("urgent bytes behind the faults", x.told(1, 8), 1);
+        int before = x.sent();
+        for (int i = 0; i < 25; i++) {
+            for (int k = 0; k < 8; k++) {
+                x.urge(0, k);
+            }
+            x.tick(20);
+            x.tick(12);
+        }
+        DUE.is("units of 200 urgent bytes", x.sent() - before, 400);
+        DUE.is("urgent bytes", x.told(1, 8), 201);
     }
 
     /** Each byte of a CALL, spoiled by a mask that does not swap 0 and 255, makes it bad. */

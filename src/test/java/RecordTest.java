@@ -7,6 +7,7 @@ public final class RecordTest {
         wrongInputs();
         onlyTheLast64AreKept();
         theLast64AreAsTheyWereSent();
+        numbersBehindAFullRecord();
         lastByteOfEachKind();
         lostUnitIsRecorded();
         DUE.finish();
@@ -81,6 +82,26 @@ public final class RecordTest {
             DUE.unit(y, 3 + 2 * i, Due.urgentUnit(1, i, i));
             DUE.unit(y, 4 + 2 * i, Due.urgentReceiptUnit(1, i + 1));
         }
+    }
+
+    /** 403 units are sent: a number that is not yet given has no byte of an older unit. */
+    private static void numbersBehindAFullRecord() {
+        TransportFour x = Due.settled();
+        for (int i = 0; i < 25; i++) {
+            for (int k = 0; k < 8; k++) {
+                x.urge(0, k);
+            }
+            x.tick(20);
+            x.tick(12);
+        }
+        DUE.is("sent", x.sent(), 403);
+        DUE.is("number 402", x.byteOf(402, 0), 8);
+        DUE.is("number 403", x.byteOf(403, 0), Due.BAD);
+        DUE.is("number 404", x.byteOf(404, 0), Due.BAD);
+        DUE.is("number 339", x.byteOf(339, 0), 8);
+        DUE.is("number 338", x.byteOf(338, 0), Due.BAD);
+        DUE.is("number 0", x.byteOf(0, 0), Due.BAD);
+        DUE.is("number -1", x.byteOf(-1, 0), Due.BAD);
     }
 
     /** "Byte i of a unit": the last byte of each length, and the one behind. */

@@ -19,6 +19,7 @@ public final class TakeTest {
         closedEndTellsNothing();
         messagesStayTillTheNextConnection();
         nextConnectionKeepsNoUnits();
+        nextConnectionHasNoUnfinishedMessage();
         DUE.finish();
     }
 
@@ -255,13 +256,46 @@ public final class TakeTest {
         DUE.is("the message taken latest stays the end's", x.read(1, 0), 7);
     }
 
-    /** DATA 0 is unfinished and 2 is kept when the connection ends; neither is left for the next one. */
+    /** DATA first is lost and the next 5 are kept when the connection ends; none is left for the next one. */
     private static void nextConnectionKeepsNoUnits() {
+        for (int first = 0; first < 9; first++) {
+            TransportFour x = Due.settled();
+            for (int i = 0; i < first; i++) {
+                x.send(0);
+                x.tick(2);
+                x.take(1);
+            }
+            x.tick(20);
+            x.tick(4);
+            Due.lose(x, x.sent(), 1);
+            for (int i = 0; i < 6; i++) {
+                x.type(99, 1);
+                x.send(0);
+            }
+            x.tick(2);
+            DUE.is("expected number with " + first + " lost", x.told(1, 4), first);
+            x.end(1);
+            Due.pass(x, 20);
+            x.call(0);
+            x.tick(4);
+            for (int i = 0; i < 6; i++) {
+                x.type(i, 1);
+                x.send(0);
+            }
+            x.tick(2);
+            DUE.told(x, 1, 2, 2, 2, 0, 6, 0, 6, 6);
+            for (int i = 0; i < 6; i++) {
+                DUE.is("take", x.take(1), 1);
+                DUE.is("read", x.read(1, 0), i);
+            }
+        }
+    }
+
+    /** DATA 0 of a message of two units is put when the connection ends; it is not put before the next one. */
+    private static void nextConnectionHasNoUnfinishedMessage() {
         TransportFour x = Due.settled();
-        x.fault(Due.LOST, 4, 0, 1);
-        x.type(1, 8);
-        x.type(2, 8);
-        x.send(0);
+        Due.lose(x, 4, 1);
+        Due.type(x, 70, 9);
         x.send(0);
         x.tick(2);
         DUE.told(x, 1, 2, 1, 1, 0, 1, 6, 6, 0);
@@ -271,12 +305,8 @@ public final class TakeTest {
         x.tick(4);
         x.type(9, 1);
         x.send(0);
-        x.type(9, 8);
-        x.type(9, 8);
-        x.fault(Due.LOST, x.sent() + 1, 0, 1);
-        x.send(0);
         x.tick(2);
-        DUE.told(x, 1, 2, 2, 2, 0, 2, 5, 6, 1);
+        DUE.told(x, 1, 2, 2, 2, 0, 1, 5, 6, 1);
         DUE.is("take", x.take(1), 1);
         DUE.is("read", x.read(1, 0), 9);
     }

@@ -16,6 +16,7 @@ public final class UrgeTest {
         urgentIsGivenUp();
         urgentGoesBesideDataWithoutCredit();
         bytesStayTillTheNextConnection();
+        nextConnectionBeginsAnew();
         numbersGoRound();
         asManyAs512CallsLetComeStay();
         DUE.finish();
@@ -209,6 +210,29 @@ public final class UrgeTest {
         x.tick(4);
         x.urge(0, 3);
         DUE.unit(x, x.sent() - 1, Due.urgentUnit(2, 0, 3));
+    }
+
+    /** One urgent byte is under way, and two wait behind it, when the peer ends: none goes in the next connection. */
+    private static void nextConnectionBeginsAnew() {
+        TransportFour x = Due.settled();
+        x.urge(0, 1);
+        x.tick(4);
+        Due.lose(x, x.sent(), 1);
+        x.urge(0, 2);
+        x.urge(0, 3);
+        x.urge(0, 4);
+        x.end(1);
+        Due.pass(x, 20);
+        x.call(1);
+        x.tick(6);
+        int before = x.sent();
+        x.tick(12);
+        DUE.is("nothing is sent by itself", x.sent(), before);
+        DUE.is("urge(0, 5)", x.urge(0, 5), 1);
+        DUE.unit(x, before, Due.urgentUnit(2, 0, 5));
+        x.tick(2);
+        DUE.unit(x, before + 1, Due.urgentReceiptUnit(2, 1));
+        DUE.is("urgent(1)", x.urgent(1), 5);
     }
 
     /** 8 urgent bytes take 10 calls: 50 times that is nearly all for which an object is used. */
