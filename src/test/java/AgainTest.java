@@ -14,6 +14,7 @@ public final class AgainTest {
         otherUnitsDoNotEndTheWaitOfAnswer();
         receiptEndsTheWaitOfWhatIsBelowIt();
         receiptInTheLastTickIsInTime();
+        whatWaitsNoMoreIsForgotten();
         silenceIsBrokenAt20();
         anySendingBreaksSilence();
         onlyOpenEndsBreakSilence();
@@ -232,6 +233,24 @@ public final class AgainTest {
     private static void receiptInTheLastTickIsInTime() {
         DUE.state(lateReceipt(34), 0, Due.OPEN);
         DUE.state(lateReceipt(35), 0, Due.FROZEN);
+    }
+
+    /** DATA 0 is sent four times and has its RECEIPT; behind it come as many units as any store of 40 has. */
+    private static void whatWaitsNoMoreIsForgotten() {
+        TransportFour x = Due.settled();
+        Due.lose(x, 3, 3);
+        x.send(0);
+        Due.pass(x, 30);
+        DUE.is("DATA 0", times(x, Due.dataUnit(1, 0, true)), 4);
+        x.take(1);
+        for (int i = 1; i <= 42; i++) {
+            DUE.is("send", x.send(0), 1);
+            x.tick(4);
+            DUE.is("take", x.take(1), 0);
+        }
+        x.tick(9);
+        DUE.state(x, 0, Due.OPEN);
+        DUE.is("next number", x.told(0, 3), 43);
     }
 
     /** "When OPEN and 20 ticks have gone since it sent anything, it sends a RECEIPT". */
