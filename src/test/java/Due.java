@@ -67,7 +67,7 @@ final class Due {
         return bytes;
     }
 
-    private static int[] make(int code, int to, int[] middle, int... body) {
+    static int[] make(int code, int to, int[] middle, int... body) {
         int head = 4 + middle.length + 4;
         int[] unit = new int[head + body.length];
         unit[0] = head - 1;
